@@ -26,6 +26,10 @@ public final class LimitsTest {
         }
         CHECK.due("the last row", last, 16384);
         CHECK.due("sort(16384)", x.sort(16384), 1);
+        CHECK.due("length(16384)", x.length(16384), 1);
+        x.set(16384, 0, 5, 55);
+        CHECK.due("number(16384, 0)", x.number(16384, 0), 55);
+        CHECK.due("number(1, 0), another place", x.number(1, 0), 0);
         CHECK.due("sort(16383)", x.sort(16383), 1);
         CHECK.due("sort(16382)", x.sort(16382), 2);
         int places = x.noted(0, 1);

@@ -7,6 +7,7 @@ public final class RoomTest {
         (com.sun.management.ThreadMXBean) ManagementFactory.getThreadMXBean();
 
     public static void main(String[] args) {
+        small();
         dearest();
         restores();
         long before = taken();
@@ -14,6 +15,9 @@ public final class RoomTest {
             new PageStore();
         }
         within("a new object", (taken() - before) / 100, 4_000);
+        before = taken();
+        small();
+        within("a small run", taken() - before, 20_000);
         before = taken();
         dearest();
         within("the dearest run", taken() - before, 1_500_000);
@@ -29,6 +33,20 @@ public final class RoomTest {
 
     private static void within(String what, long bytes, long most) {
         CHECK.holds(what + " takes " + bytes + " bytes, at most " + most, bytes <= most);
+    }
+
+    private static void small() {
+        PageStore x = new PageStore();
+        x.values(32768);
+        x.bytes(65536);
+        x.dictionary();
+        x.save();
+        for (int i = 0; i < 40; i++) {
+            x.set(1, i, 1, i);
+            x.setByte(2, i, i);
+            x.define(1, 1, i, 1, i);
+            x.part(1, 0, i);
+        }
     }
 
     /** Places and bytes far apart make each column grow as often as it can. */

@@ -11,6 +11,7 @@ public final class SavesTest {
         save();
         restoreCounts();
         restorePlaces();
+        restoreLeavesTheRest();
         restoreKeys();
         restoreBytes();
         rememberedOnce();
@@ -89,6 +90,27 @@ public final class SavesTest {
         row(x, "at the second", 4, 21, 2, 11, 0, 0);
         CHECK.due("restore(1)", x.restore(1), 0);
         row(x, "at the first", 1, 10, 2, 11, 0, 0);
+    }
+
+    private static void restoreLeavesTheRest() {
+        PageStore x = new PageStore();
+        x.values(3);
+        x.set(1, 0, 1, 10);
+        x.set(1, 1, 1, 11);
+        x.save();
+        x.set(1, 2, 1, 12);
+        x.restore(1);
+        row(x, "with one changed since", 1, 10, 1, 11, 0, 0);
+        x.save();
+        x.restore(1);
+        row(x, "with none changed since", 1, 10, 1, 11, 0, 0);
+        x.set(1, 2, 2, 22);
+        x.save();
+        x.save();
+        x.set(1, 1, 2, 21);
+        x.restore(2);
+        x.restore(1);
+        row(x, "with what was remembered before forgotten", 1, 10, 1, 11, 2, 22);
     }
 
     private static void row(PageStore x, String when, int... kindsAndNumbers) {
