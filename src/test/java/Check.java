@@ -1,6 +1,7 @@
 /** Counts the answers that are not as due, and prints each; shared by the tests beside it. */
 final class Check {
     private final String test;
+    private String sentence = "";
     private int asked;
     private int wrong;
 
@@ -8,11 +9,16 @@ final class Check {
         this.test = test;
     }
 
+    /** What follows holds to these words of the document; a wrong answer is printed with them. */
+    void says(String where, String words) {
+        sentence = " [" + where + ": " + words + "]";
+    }
+
     void due(String call, int got, int want) {
         asked++;
         if (got != want) {
             wrong++;
-            System.out.println(test + ": " + call + " answered " + got + ", due is " + want);
+            System.out.println(test + ": " + call + " answered " + got + ", due is " + want + sentence);
         }
     }
 
