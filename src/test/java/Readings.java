@@ -1,5 +1,6 @@
 /**
- * All that can be asked of a store, as one text: two stores with the same text can't be told apart.
+ * What a store answers, as one text: all counts, the cursor, the last rows with the places at both
+ * their ends, and the keys of small numbers in the first dictionaries; the tests change nothing else.
  * The store is used up by it, for what stands behind the saves is seen only by going back to them.
  */
 final class Readings {

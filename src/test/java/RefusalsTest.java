@@ -4,7 +4,7 @@ import java.util.function.ToIntFunction;
 /**
  * "Of several codes the one named first is answered; a call that answers one of these changes
  * nothing": each refused call is made on one of two stores of the same making, and afterwards
- * nothing that can be asked of them differs.
+ * their readings are the same, now and at every save.
  */
 public final class RefusalsTest {
     private static final int BAD = PageStore.BAD;
@@ -228,7 +228,7 @@ public final class RefusalsTest {
         refused(RefusalsTest::fullSaves, "save()", FULL, x -> x.save());
     }
 
-    /** All 15 saves together have 40000; the place 2665 and the keys are not remembered for the last. */
+    /** All 15 saves together have 40000; the places 2662 to 2666 and the keys are not remembered for the last. */
     private static PageStore fullMemories() {
         PageStore x = new PageStore();
         x.values(2667);
