@@ -373,9 +373,9 @@ public final class PageStore {
                 return;
             }
             if (index >= cells.length) {
-                // Doubling keeps all that growing ever takes under twice the limit.
-                int room = Math.max(index + 1, Math.min(limit, 2 * cells.length));
-                cells = Arrays.copyOf(cells, room);
+                int room = Math.max(index + 1, 2 * cells.length);
+                // Behind the half comes the whole: all that growing ever takes stays under twice the limit.
+                cells = Arrays.copyOf(cells, room > limit / 2 ? limit : room);
             }
             cells[index] = number;
         }

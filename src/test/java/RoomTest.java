@@ -20,7 +20,8 @@ public final class RoomTest {
         within("a small run", taken() - before, 20_000);
         before = taken();
         dearest();
-        within("the dearest run", taken() - before, 1_500_000);
+        // Twice the limits of places (kind and number) and bytes, four bytes an element, and a little more.
+        within("the dearest run", taken() - before, 2 * (2 * 32768 + 65536) * 4 + 50_000);
         before = taken();
         restores();
         within("saves and restores", taken() - before, 10_000);
@@ -49,16 +50,21 @@ public final class RoomTest {
         }
     }
 
-    /** Places and bytes far apart make each column grow as often as it can. */
+    /** The dearest way to grow: just short of the limit and of its halves, and to the limit at last. */
     private static void dearest() {
         PageStore x = new PageStore();
         x.values(32768);
         x.bytes(65536);
         x.dictionary();
         x.save();
-        for (int i = 0; i < 120; i++) {
-            x.set(1, Math.min(32767, 1 << Math.min(i, 15)), 1, i);
-            x.setByte(2, Math.min(65535, 1 << Math.min(i, 16)), i);
+        for (int size = 64; size <= 32768; size *= 2) {
+            x.set(1, size - 2, 1, size);
+            x.setByte(2, size - 2, size);
+        }
+        x.setByte(2, 65534, 1);
+        x.set(1, 32767, 1, 1);
+        x.setByte(2, 65535, 1);
+        for (int i = 0; i < 240; i++) {
             x.define(1, 1, i, 1, i);
             x.part(1, 0, i);
         }
